@@ -648,7 +648,9 @@ public final class StrangerRopes {
 
         void become(Roads other) {
             System.arraycopy(other.lengths, 0, lengths, 0, PLACES * PLACES);
-            survey();
+            System.arraycopy(other.distances, 0, distances, 0, PLACES * PLACES);
+            System.arraycopy(other.nexts, 0, nexts, 0, PLACES * PLACES);
+            System.arraycopy(other.nearests, 0, nearests, 0, PLACES * PLACES);
         }
 
         int lengthOf(int a, int b) {
@@ -703,9 +705,10 @@ public final class StrangerRopes {
             }
             for (int by = 0; by < PLACES; by++) {
                 for (int a = 0; a < PLACES; a++) {
+                    int toBy = distances[a * PLACES + by];
                     for (int b = 0; b < PLACES; b++) {
-                        int round = distance(a, by) + distance(by, b);
-                        if (round < distance(a, b)) distances[a * PLACES + b] = round;
+                        int round = toBy + distances[by * PLACES + b];
+                        if (round < distances[a * PLACES + b]) distances[a * PLACES + b] = round;
                     }
                 }
             }
