@@ -71,7 +71,6 @@ public final class StrangerRopes {
 
     public StrangerRopes() {
         Arrays.fill(spots, NOBODY);
-        Arrays.fill(keptSpots, NOBODY);
     }
 
     // ---- places, people, ropes
@@ -411,12 +410,11 @@ public final class StrangerRopes {
         int fault = reader.faultOf(people.number());
         tape.clear();
         if (fault != Reader.NO_FAULT) return -1 - fault;
-        for (int i = 0; i < reader.items(); i++) follow(i);
+        for (int i = 0; i < reader.items(); i++) carryOut(i);
         return reader.items();
     }
 
-    // An ITEM of the TEXT becomes so.
-    private void follow(int item) {
+    private void carryOut(int item) {
         int first = reader.part(item, 1);
         int second = reader.part(item, 2);
         int third = reader.part(item, 3);
@@ -756,7 +754,6 @@ public final class StrangerRopes {
 
         People(Roads roads) {
             this.roads = roads;
-            Arrays.fill(mates, NOBODY);
         }
 
         void become(People other) {
@@ -892,8 +889,6 @@ public final class StrangerRopes {
             if (!has(p) || !has(mate)) return;
             mates[p] = NOBODY;
             mates[mate] = NOBODY;
-            ropes[p] = 0;
-            ropes[mate] = 0;
         }
 
         // How far two MATES can be from one another.

@@ -93,7 +93,15 @@ public final class FuzzTest {
         }
         check.due(at + "text()", x.text(), y.text());
         check.due(at + "undo()", x.undo(), y.undo());
-        for (int i = 0; i < 8; i++) check.due(at + "count(" + i + ") behind undo()", x.count(i), y.count(i));
+        compareKept(at + "behind undo(): ", x, y);
+    }
+
+    private static void compareKept(String at, StrangerRopes x, StrangerRopes y) {
+        for (int i = 0; i < 8; i++) check.due(at + "count(" + i + ")", x.count(i), y.count(i));
+        for (int p = 0; p < x.count(1); p++) {
+            for (int i = 0; i < 9; i++) check.due(at + "of(" + p + ", " + i + ")", x.of(p, i), y.of(p, i));
+            check.due(at + "next(" + p + ")", x.next(p), y.next(p));
+        }
     }
 
     private static long answerOf(StrangerRopes x, int[] c) {

@@ -325,6 +325,7 @@ public final class PromisesTest {
         oneMoreTooShort();
         dancersByTheClock();
         talliesAtMost();
+        clockAtMost();
     }
 
     // The mate at 0 has two ways on; 4 and 7 are as near to 3, and the least is taken.
@@ -450,6 +451,39 @@ public final class PromisesTest {
         x.change(0, 2, place == 0 ? 1 : 0);
         row(0, 8, 1);
         due("fits() beyond the most TUGS", x.fits(0, 1, 0), 1);
+    }
+
+    // Only behind more calls than an object is promised for, so this binds this program alone.
+    private static void clockAtMost() {
+        begin(10);
+        people(1, 0);
+        for (int i = 0; i < 2499; i++) x.go(40);
+        due("go(40)", x.go(40), STATE);
+        due("go(41)", x.go(41), BEYOND);
+        due("days(4)", x.days(4), STATE);
+        due("days(11)", x.days(11), BEYOND);
+        due("count(0)", x.count(0), 99960);
+        due("count(6)", x.count(6), 1);
+        x.days(3);
+        due("days(1)", x.days(1), STATE);
+        due("go(10)", x.go(10), STATE);
+        due("go(9)", x.go(9), 99999);
+        due("go(1)", x.go(1), STATE);
+        due("status(4)", x.status(4), 5);
+        theDancerAtTheLastClock();
+    }
+
+    // CLOCK stays odd in what is foreseen, so the dancer never gets the stronger one.
+    private static void theDancerAtTheLastClock() {
+        x.change(0, 0, 3);
+        x.change(0, 1, 1);
+        x.change(0, 2, 9);
+        x.change(1, 1, 0);
+        x.change(1, 2, 0);
+        x.tie(0, 1, 1);
+        due("still()", x.still(), 0);
+        due("when(0)", x.when(0), NONE);
+        due("ahead(60)", x.ahead(60), 2);
     }
 
     private static void nowNextMay() {
@@ -578,7 +612,22 @@ public final class PromisesTest {
         x.change(2, 0, 6);
         due("still()", x.still(), 0);
         restless();
+        dancersForEver();
         due("now(0)", x.now(0), 0);
+    }
+
+    // The dancer is stronger at each other step, and the other one draws it back at those between.
+    private static void dancersForEver() {
+        begin(17);
+        people(1, 0);
+        x.change(0, 0, 3);
+        x.change(0, 2, 9);
+        x.tie(0, 1, 1);
+        due("still()", x.still(), NONE);
+        due("when(0)", x.when(0), 13);
+        due("ahead(59)", x.ahead(59), 1);
+        due("ahead(60)", x.ahead(60), 0);
+        due("held()", x.held(), 1);
     }
 
     // The strong one draws the runner along at each step, and the runner comes back.
@@ -655,6 +704,13 @@ public final class PromisesTest {
         x.change(2, 0, 6);
         due("cuts()", x.cuts(), 1);
         due("count(2)", x.count(2), 2);
+        begin(21);
+        people(0, 0, 0, 0, 0, 0, 0, 0);
+        for (int p = 0; p < 8; p += 2) x.tie(p, p + 1, 0);
+        x.change(0, 2, 9);
+        x.change(3, 2, 9);
+        due("cuts() of two of four", x.cuts(), 5);
+        due("freed()", x.freed(), 8);
         begin(21);
         // To be led away: with the rope both come to 3, as the anchor cannot go alone.
         people(0, 0);
@@ -973,6 +1029,17 @@ public final class PromisesTest {
         dueText("person at 1 at 1", -13);
         dueText("person strength 1 to 1", -19);
         dueText("personat 1", -1);
+        dueText("serson", -1);
+        dueText("personz", -1);
+        dueText("person`", -7);
+        dueText("person{", -7);
+        dueText("person at /", -11);
+        dueText("person at :", -11);
+        dueText("way 0 1 2\0", -10);
+        dueText("\0", -1);
+        dueText("person at 9 to 10", -16);
+        dueText("person at 9 to 9 strength 10", -27);
+        dueText("person;person at 9 to 9 strength 9;tie 0 3 999;tie 3 0 1000", -56);
         dueText("person at 1strength", -20);
         dueText("person 1", -8);
         dueText("way 0 9 1;person;person;tie 0 4 1", -31);
