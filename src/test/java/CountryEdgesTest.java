@@ -140,6 +140,13 @@ public final class CountryEdgesTest extends Edges {
         due("a WAY that is as long", x.far(0, 2), 2);
         x.way(0, 2, 1);
         due("a WAY that is shorter", x.far(0, 2), 1);
+        edge(3, "the least sum of lengths: by any PLACE");
+        for (int by = 0; by < 10; by++) {
+            x = new StrangerRopes();
+            for (int p = 0; p < 9; p++) x.way(p, p + 1, 0);
+            for (int p = 0; p < 10; p++) x.way(by, p, 4);
+            due("far() by " + by, x.far((by + 1) % 10, (by + 2) % 10), 8);
+        }
         edge(3, "BEYOND");
         int[] others = {-1, 10, LEAST, MOST};
         for (int place : others) {
@@ -711,6 +718,18 @@ public final class CountryEdgesTest extends Edges {
         x.go(1);
         dueOf(1, 3, 3);
         dueOf(8, 0, 1);
+        edge(10, "of the PLACES beside the MATE's the nearest: 0, 9");
+        one(0, 1, 0, 9);
+        one(0, 2, 2, 0);
+        one(0, 8, 9, 9);
+        one(0, 7, 7, 0);
+        x.tie(0, 1, 1);
+        x.tie(2, 3, 1);
+        x.way(0, 2, 9);
+        x.way(7, 9, 9);
+        x.go(1);
+        dueOf(1, 0, 1, 9, 8);
+        dueOf(8, 0, 1, 0, 1);
         edge(10, "of several the least");
         x.way(0, 1, 0);
         x.way(2, 3, 0);
@@ -898,6 +917,16 @@ public final class CountryEdgesTest extends Edges {
         due("now(3)", x.now(3), 2 + x.of(3, 7));
         due("now(4)", x.now(4), x.of(3, 8));
         due("of(3, 8)", x.of(3, 8), 4);
+        edge(11, "TUGS of all: of the first and of the last");
+        for (int i = 0; i < 4; i++) {
+            one(0, 4, 4, i == 3 ? 9 : 0);
+            one(0, 4, i == 3 ? 4 : 9, i == 3 ? 0 : 9);
+            x.tie(2 * i, 2 * i + 1, 0);
+        }
+        x.change(6, 2, 9);
+        x.go(1);
+        dueOf(8, 1, 0, 1, 0, 1, 0, 0, 1);
+        due("now(4)", x.now(4), 4);
     }
 
     private static void next() {

@@ -131,6 +131,9 @@ public final class ForeseenEdgesTest extends Edges {
         due("held()", x.held(), 2);
         x.tie(2, 3, 5);
         due("held()", x.held(), 0);
+        x.tie(0, 1, 3);
+        x.tie(2, 3, 2);
+        due("held()", x.held(), 2);
         edge(16, "in a STEP: by numbers");
         one(0, 0, 9, 3);
         people(0);
@@ -568,6 +571,17 @@ public final class ForeseenEdgesTest extends Edges {
         due("fits(1, 0, 0)", x.fits(1, 0, 0), 1);
         due("fits(2, 0, 0)", x.fits(2, 0, 0), 1);
         due("fits(3, 0, 0)", x.fits(3, 0, 0), 0);
+        edge(27, "one number for each STEP: another one in each");
+        fourWhoTug();
+        row(0, 8, 0, 1, 1, 1);
+        row(1, 8, 1, 2, 1, 0);
+        row(2, 8, 0, 1, 1, 0);
+        row(3, 8, 0, 0, 1, 1);
+        due("fits(0, 0, 1)", x.fits(0, 0, 1), 1);
+        due("fits(1, 0, 1)", x.fits(1, 0, 1), 1);
+        due("fits(2, 0, 1)", x.fits(2, 0, 1), 0);
+        due("fits(3, 0, 1)", x.fits(3, 0, 1), 0);
+        due("fits(3, 0, 2)", x.fits(3, 0, 2), 1);
         edge(27, "numbers are told with their sign and lowest bits");
         fourWhoTug();
         row(0, 8, 257);
