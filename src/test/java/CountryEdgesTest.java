@@ -442,6 +442,13 @@ public final class CountryEdgesTest extends Edges {
         due("of(0, 3), though 0", x.of(0, 3), 1);
         due("tie(0, 1, 5)", x.tie(0, 1, 5), 1);
         due("tie(0, 1, 6)", x.tie(0, 1, 6), 1);
+        edge(7, "where they are, not where their ERRANDS are");
+        one(0, 0, 9, 3);
+        one(0, 4, 0, 3);
+        due("tie(0, 1, 3)", x.tie(0, 1, 3), 0);
+        due("tie(0, 1, 4)", x.tie(0, 1, 4), 1);
+        due("tie(1, 0, 3)", x.tie(1, 0, 3), 0);
+        due("tie(1, 0, 4)", x.tie(1, 0, 4), 1);
         edge(7, "SLACK: 3 for a SAILOR, each one's");
         people(0, 9);
         x.change(0, 0, 5);
@@ -893,6 +900,16 @@ public final class CountryEdgesTest extends Edges {
         due("LENGTH and a SLACK are just so", x.now(2), 3);
         x.change(1, 0, 5);
         due("LENGTH and two SLACKS are more", x.now(2), 0);
+        edge(11, "tight: by where they are, not by their ERRANDS");
+        one(0, 0, 6, 3);
+        one(0, 4, 9, 3);
+        int[] lengths = {2, 3, 5, 9};
+        for (int length : lengths) {
+            x.tie(0, 1, length);
+            due("now(2) by " + length, x.now(2), 0);
+        }
+        x.tie(0, 1, 4);
+        due("now(2) by 4", x.now(2), 3);
         edge(11, "tight: LENGTH 0 at one PLACE; all of 8");
         people(0, 0, 1, 1, 2, 2, 3, 3);
         for (int p = 0; p < 8; p += 2) x.tie(p, p + 1, 0);

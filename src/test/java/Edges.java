@@ -61,7 +61,20 @@ class Edges {
     }
 
     static void feed(String text) {
-        for (byte b : text.getBytes(StandardCharsets.ISO_8859_1)) x.feed(b, 1);
+        feedTo(x, text);
+    }
+
+    // By fours, so that many texts take less than the calls for which an object is promised.
+    static void feedTo(StrangerRopes to, String text) {
+        byte[] bytes = text.getBytes(StandardCharsets.ISO_8859_1);
+        int i = 0;
+        while (i < bytes.length) {
+            int n = Math.min(4, bytes.length - i);
+            int number = 0;
+            for (int k = 0; k < n; k++) number = number << 8 | bytes[i + k] & 255;
+            to.feed(number, n);
+            i += n;
+        }
     }
 
     static void dueText(String text, long want) {

@@ -401,6 +401,7 @@ public final class ForeseenEdgesTest extends Edges {
         due("where they are, as far as the ERRANDS", x.apart(0, 1), 3);
         x.change(1, 2, 4);
         due("ERRANDS by 1 more", x.apart(0, 1), 4);
+        due("the other way round", x.apart(1, 0), 4);
         x.change(1, 2, 2);
         due("ERRANDS by 1 less", x.apart(0, 1), 3);
         due("the other way round", x.apart(1, 0), 3);

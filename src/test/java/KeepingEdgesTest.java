@@ -193,6 +193,11 @@ public final class KeepingEdgesTest extends Edges {
         dueOf(1, 0, 4, 0, 4, 0);
         dueOf(2, 0, 4, 5, 5, 0);
         dueOf(4, 3, 3, 3, 3, 0);
+        edge(35, "ERRAND without: where one is, each of eight");
+        dueText("person at 3;stout at 5;runner at 7;person;person at 9;person at 1", 6);
+        dueText("person at 2 strength 4;person at 8", 2);
+        dueOf(1, 3, 5, 7, 0, 9, 1, 2, 8);
+        dueOf(2, 3, 5, 7, 0, 9, 1, 2, 8);
         edge(35, "at and a NUMBER (0 to 9)");
         dueText("person at 0;person at 9", 2);
         dueText("person at 10", -11);
@@ -736,6 +741,22 @@ public final class KeepingEdgesTest extends Edges {
         x.undo();
         due("far(4, 5)", x.far(4, 5), 5);
         due("next(0)", x.next(0), 3);
+        edge(43, "WAYS, each of them");
+        x.image();
+        for (int p = 0; p < 9; p++) x.way(p, p + 1, 0);
+        for (int p = 0; p < 8; p++) x.way(p, p + 2, 9);
+        x.undo();
+        for (int a = 0; a < 10; a++) {
+            for (int b = 0; b < 10; b++) due("far(" + a + ", " + b + ")", x.far(a, b), Math.abs(a - b));
+        }
+        people(0);
+        for (int a = 0; a < 10; a++) {
+            x.change(0, 1, a);
+            for (int b = 0; b < 10; b++) {
+                x.change(0, 2, b);
+                due("next(0) from " + a + " to " + b, x.next(0), a + Integer.compare(b, a));
+            }
+        }
         edge(43, "WAYS, and the PLACES to which one is TUGGED by them");
         x.way(0, 3, 9);
         one(0, 2, 9, 9);
@@ -748,6 +769,16 @@ public final class KeepingEdgesTest extends Edges {
         x.undo();
         x.go(1);
         dueOf(1, 3, 3);
+        edge(43, "WAYS, and the PLACES to which one is TUGGED by them: from the last one");
+        x.way(9, 6, 9);
+        one(0, 7, 0, 9);
+        one(0, 9, 6, 0);
+        x.tie(0, 1, 2);
+        x.image();
+        x.way(9, 6, 0);
+        x.undo();
+        x.go(1);
+        dueOf(1, 6, 6);
         edge(43, "not THE TAPE, not SHEETS");
         people(0);
         feed("person;");

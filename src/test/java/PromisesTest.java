@@ -1,5 +1,3 @@
-import java.nio.charset.StandardCharsets;
-
 /** Each promise of the document: ordinary calls, the edges that it names, wrong ones. */
 public final class PromisesTest {
     private static final long BEYOND = Check.BEYOND;
@@ -42,7 +40,7 @@ public final class PromisesTest {
     }
 
     private static void feedAll(String text) {
-        for (byte b : text.getBytes(StandardCharsets.ISO_8859_1)) x.feed(b, 1);
+        Edges.feedTo(x, text);
     }
 
     private static void dueText(String text, long want) {
@@ -471,6 +469,17 @@ public final class PromisesTest {
         due("go(1)", x.go(1), STATE);
         due("status(4)", x.status(4), 5);
         theDancerAtTheLastClock();
+        daysToTheLastClock();
+    }
+
+    private static void daysToTheLastClock() {
+        begin(31);
+        x.go(9);
+        for (int i = 0; i < 999; i++) x.days(10);
+        due("days(10)", x.days(10), STATE);
+        due("days(9)", x.days(9), 0);
+        due("count(0)", x.count(0), 99999);
+        due("days(1)", x.days(1), STATE);
     }
 
     // CLOCK stays odd in what is foreseen, so the dancer never gets the stronger one.
