@@ -13,6 +13,8 @@ final class Country {
         int mate = -1;
         int strength = 3;
         int rope;
+        int holds;
+        int tugs;
         int tuggedNow;
         boolean heldNow;
 
@@ -46,6 +48,8 @@ final class Country {
     }
 
     final int[][] ways = new int[10][10];
+    // What was reckoned since the ways are as they are, else null.
+    private int[][] reckoned = null;
     final List<One> all = new ArrayList<>();
     int clock = 0;
 
@@ -56,6 +60,7 @@ final class Country {
     Country twin() {
         Country t = new Country();
         for (int a = 0; a < 10; a++) t.ways[a] = ways[a].clone();
+        t.reckoned = reckoned;
         for (One one : all) {
             One o = new One();
             o.kind = one.kind;
@@ -64,6 +69,8 @@ final class Country {
             o.mate = one.mate;
             o.strength = one.strength;
             o.rope = one.rope;
+            o.holds = one.holds;
+            o.tugs = one.tugs;
             t.all.add(o);
         }
         t.clock = clock;
@@ -73,6 +80,7 @@ final class Country {
     void setWay(int a, int b, int v) {
         ways[a][b] = v;
         ways[b][a] = v;
+        reckoned = null;
     }
 
     void add(int kind, int at) {
@@ -98,8 +106,16 @@ final class Country {
         if (mate >= 0) all.get(mate).mate = -1;
     }
 
-    // Bellman's way: as many rounds as there are places.
     int far(int a, int b) {
+        if (reckoned == null) {
+            reckoned = new int[10][];
+            for (int p = 0; p < 10; p++) reckoned[p] = farFrom(p);
+        }
+        return reckoned[a][b];
+    }
+
+    // Bellman's way: as many rounds as there are places.
+    private int[] farFrom(int a) {
         int[] best = new int[10];
         java.util.Arrays.fill(best, FAR);
         best[a] = 0;
@@ -110,7 +126,7 @@ final class Country {
                 }
             }
         }
-        return best[b];
+        return best;
     }
 
     boolean lets(One one, int place, One mate, int matePlace) {
@@ -160,9 +176,11 @@ final class Country {
             one.at = wanted;
             mate.at = to;
             mate.tuggedNow++;
+            mate.tugs = Math.min(mate.tugs + 1, 9999);
             return true;
         }
         one.heldNow = true;
+        one.holds = Math.min(one.holds + 1, 9999);
         return false;
     }
 
